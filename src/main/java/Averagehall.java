@@ -525,10 +525,6 @@ public final class Averagehall {
             return print == null ? subject.usual : print.amount;
         }
 
-        boolean allows(Subject subject) {
-            return bound(subject) == 1;
-        }
-
         /** The hour of a moment, or NONE: the paper that came in last has it, not the one told last. */
         int momentHour(char what) {
             Fact stands = null;
@@ -670,7 +666,7 @@ public final class Averagehall {
         int startHour(Book book) {
             holidays.wipe();
             holidays.addHolidays(book);
-            boolean isAwayEnough = book.allows(Subject.NOTICE_AWAY);
+            boolean isAwayEnough = book.bound(Subject.NOTICE_AWAY) == 1;
             int first = NONE;
             for (int n = 0; n < book.size(); n++) {
                 Fact notice = book.counting(Topic.NOTICE, n);
@@ -711,13 +707,13 @@ public final class Averagehall {
         private void gatherIdle(Book book) {
             idle.wipe();
             idle.addStops(book, 's');
-            if (!book.allows(Subject.RAIN_COUNTS)) {
+            if (book.bound(Subject.RAIN_COUNTS) == 0) {
                 idle.addStops(book, 'r');
             }
-            if (!book.allows(Subject.STRIKES_COUNT)) {
+            if (book.bound(Subject.STRIKES_COUNT) == 0) {
                 idle.addStops(book, 'k');
             }
-            if (!book.allows(Subject.SUNDAYS_COUNT)) {
+            if (book.bound(Subject.SUNDAYS_COUNT) == 0) {
                 idle.addHolidays(book);
                 for (int day = SUNDAY; day < DAYS; day += WEEK) {
                     idle.addDay(day);

@@ -18,6 +18,10 @@ public final class AverageTest {
         balances();
         deposits();
         theMost();
+        oneCoin();
+        theFirstFact();
+        backToAnEarlierDay();
+        eachAskedFirst();
         Check.end("AverageTest");
     }
 
@@ -422,6 +426,72 @@ public final class AverageTest {
         Check.eq("due", x.due(1), -110);
         x.asOf(5);
         Check.eq("as of 5", x.due(1), -10);
+    }
+
+    private static void oneCoin() {
+        Averagehall x = withInterests(1);
+        x.clause('y', 3, false);
+        x.expense('f', 0, 77, 0);
+        x.award(55, 0);
+        Check.eq("a value of 1", shares(x, false) + " " + shares(x, true) + " " + balanceRow(x), "77 55 55");
+    }
+
+    private static void theFirstFact() {
+        Averagehall x = Check.opened(0);
+        x.peril('g', 0, 3, 0);
+        x.interest(10);
+        Check.eq("a peril as the first fact", rests(x), "7+3");
+        Averagehall y = Check.opened(0);
+        y.expense('f', 0, 3, 0);
+        y.interest(10);
+        Check.eq("an expense as the first fact", y.average(), 3);
+        Averagehall z = Check.opened(0);
+        z.award(4, 0);
+        z.interest(10);
+        Check.eq("an award as the first fact", z.average(), 4);
+        Averagehall w = Check.opened(0);
+        w.deposit(0, 5);
+        w.interest(10);
+        Check.eq("a deposit as the first fact", w.due(0), -5);
+    }
+
+    private static void backToAnEarlierDay() {
+        Averagehall x = withInterests(10);
+        x.peril('g', 0, 4, 1);
+        x.peril('l', 0, 6, 2);
+        x.expense('f', 0, 7, 0);
+        x.paper(6);
+        x.interest(100);
+        x.expense('f', 1, 50, 0);
+        x.peril('g', 1, 20, 0);
+        Check.eq("with the later paper", rests(x) + " " + x.average() + " " + balanceRow(x), "0+4 80+20 81 -8 8");
+        x.asOf(5);
+        Check.eq("all that there is is lost", rests(x) + " " + x.average() + " " + balanceRow(x), "0+0 7 -7");
+        x.asOf(6);
+        Check.eq("with it", rests(x) + " " + x.average() + " " + balanceRow(x), "0+4 80+20 81 -8 8");
+    }
+
+    private static Averagehall lively() {
+        Averagehall x = withInterests(1000, 500);
+        x.clause('y', 3, false);
+        x.peril('g', 1, 90, 1);
+        x.award(30, 0);
+        x.expense('p', 0, 45, 0);
+        return x;
+    }
+
+    /** No call may lean on another one that was asked ahead of it. */
+    private static void eachAskedFirst() {
+        Check.eq("rest", lively().rest(1), 410);
+        Check.eq("madeGood", lively().madeGood(1), 90);
+        Check.eq("average", lively().average(), 135);
+        Check.eq("share", lively().share(0, false), 90);
+        Check.eq("share of salvage", lively().share(0, true), 20);
+        Check.eq("balance", lively().balance(0), 90 + 20 - 45);
+        Check.eq("due", lively().due(0), 65);
+        Check.eq("goodShare", lively().goodShare(), 90f / 135f);
+        Check.eq("meanBalance", lively().meanBalance(), (65 + 35) / 2d);
+        Check.eq("isConsistent", lively().isConsistent(), true);
     }
 
     private static void theMost() {

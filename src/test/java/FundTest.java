@@ -8,6 +8,7 @@ public final class FundTest {
         barred();
         asOfDays();
         noSuchClaim();
+        theFirstFact();
         Check.end("FundTest");
     }
 
@@ -129,6 +130,16 @@ public final class FundTest {
         x.asOf(2);
         Check.eq("none", x.claims(), 0);
         Check.fails("none", Check.IOOBE, () -> x.paid(0));
+    }
+
+    private static void theFirstFact() {
+        Averagehall x = Check.opened(0);
+        x.tons(2);
+        x.claim(0, 1000, 0);
+        Check.eq("tons as the first fact", x.paid(0), 100);
+        Averagehall y = Check.opened(0);
+        y.claim(3, 1, 0);
+        Check.eq("a claim as the first fact, of 1", y.paid(0), 1);
     }
 
     private static void noSuchClaim() {

@@ -5,6 +5,8 @@ public final class HireTest {
         log();
         hire();
         moments();
+        theFirstFact();
+        backToAnEarlierDay();
         Check.end("HireTest");
     }
 
@@ -92,6 +94,31 @@ public final class HireTest {
         Check.eq("at least 0", x.hire(), 0);
         x.run(150, 0, 288);
         Check.eq("lost hours", x.hire(), 24);
+    }
+
+    private static void theFirstFact() {
+        Averagehall x = Check.opened(0);
+        x.run(0, 0, 0);
+        Check.eq("a day in the log as the first fact", x.hoursLost(), 24);
+        Averagehall y = Check.opened(0);
+        y.stop('o', 0, 5);
+        y.moment('d', 0);
+        y.moment('g', 6);
+        Check.eq("a stop as the first fact", y.hire(), 200);
+    }
+
+    private static void backToAnEarlierDay() {
+        Averagehall x = Check.opened(3);
+        x.moment('d', 0);
+        x.moment('g', 48);
+        x.run(1, 0, 276);
+        x.paper(5);
+        x.stop('o', 0, 5);
+        x.run(2, 0, 0);
+        x.run(1, 0, 0);
+        Check.eq("with the later paper", x.hoursLost() + " " + x.hire(), "48 0");
+        x.asOf(4);
+        Check.eq("without it", x.hoursLost() + " " + x.hire(), "1 9400");
     }
 
     private static void moments() {

@@ -10,6 +10,8 @@ public final class LaytimeTest {
         finish();
         money();
         missing();
+        theFirstFact();
+        backToAnEarlierDay();
         Check.end("LaytimeTest");
     }
 
@@ -240,6 +242,37 @@ public final class LaytimeTest {
         x.clause('d', 9999, true);
         x.moment('f', 4799);
         Check.eq("the most demurrage", x.demurrage(), 9999 * 4785 / 24);
+    }
+
+    private static void theFirstFact() {
+        Averagehall x = Check.opened(0);
+        x.stop('s', 20, 30);
+        x.notice(8, true);
+        x.moment('f', 40);
+        Check.eq("a stop as the first fact", x.used(), 16);
+        Averagehall y = Check.opened(0);
+        y.holiday(1);
+        y.notice(8, true);
+        y.moment('f', 60);
+        Check.eq("a holiday as the first fact", y.used(), 10 + 12);
+        Averagehall z = Check.opened(0);
+        z.moment('f', 20);
+        z.notice(8, true);
+        Check.eq("a moment as the first fact", z.used(), 6);
+    }
+
+    private static void backToAnEarlierDay() {
+        Averagehall x = Check.opened(3);
+        x.notice(8, true);
+        x.moment('f', 60);
+        x.paper(5);
+        x.holiday(0);
+        x.stop('r', 40, 44);
+        Check.eq("with the later paper", x.laytimeStart() + " " + x.used(), "38 18");
+        x.asOf(4);
+        Check.eq("without it", x.laytimeStart() + " " + x.used(), "14 46");
+        x.asOf(5);
+        Check.eq("with it", x.laytimeStart() + " " + x.used(), "38 18");
     }
 
     private static void missing() {
