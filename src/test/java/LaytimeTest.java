@@ -6,6 +6,7 @@ public final class LaytimeTest {
         noticesThatCount();
         behindTheLastOfficeHour();
         hoursThatCount();
+        everySunday();
         allHoursUsed();
         finish();
         money();
@@ -163,6 +164,16 @@ public final class LaytimeTest {
         x.clause('k', 0, true);
         x.stop('k', 0, 4800);
         Check.eq("a strike all the time", x.used(), 0);
+    }
+
+    private static void everySunday() {
+        for (int week = 0; week < 28; week++) {
+            int sunday = (7 * week + 6) * 24;
+            int before = loading(sunday).used();
+            Check.eq("a Sunday", loading(sunday + 23).used() - before, 0);
+            Check.eq("the hour behind a Sunday", loading(sunday + 25).used() - before, 1);
+        }
+        Check.eq("all 28 Sundays", loading(4799).used(), 4799 - 8 - 28 * 24);
     }
 
     private static void allHoursUsed() {
