@@ -1,24 +1,29 @@
-/** Promises 18 to 30: interests, perils, expenses, the award, the average, shares, balances, deposits. */
+/** Promises 18 to 22 and 24 to 27: interests, perils, expenses, the average and its shares. */
 public final class AverageTest {
+    private static final int MOST = 100000;
+
     public static void main(String[] args) {
-        interestRanges();
-        perilRanges();
-        expenseRanges();
-        substituteRanges();
-        awardAndDepositRanges();
+        nothingTold();
         noSuchInterest();
         interests();
+        leastAndMostValue();
         perils();
+        atMostTheRest();
+        byTheirHours();
+        perilsOfNobody();
         allLost();
+        allButOneCoinLost();
         expensesLetIn();
-        additions();
+        expensesOfNobody();
+        hundredths();
+        interestOnExpenses();
+        interestRoundedDown();
         substitutes();
         sharing();
-        awards();
-        balances();
-        deposits();
+        greatestRemainders();
+        coinsForAllButOne();
+        sharesTogether();
         theMost();
-        oneCoin();
         theFirstFact();
         backToAnEarlierDay();
         eachAskedFirst();
@@ -41,10 +46,10 @@ public final class AverageTest {
         return text.toString().trim();
     }
 
-    private static String shares(Averagehall x, boolean ofSalvage) {
+    private static String shares(Averagehall x) {
         StringBuilder text = new StringBuilder();
         for (int i = 0; i < x.interests(); i++) {
-            text.append(x.share(i, ofSalvage)).append(' ');
+            text.append(x.share(i, false)).append(' ');
         }
         return text.toString().trim();
     }
@@ -57,82 +62,16 @@ public final class AverageTest {
         return text.toString().trim();
     }
 
-    private static void interestRanges() {
+    private static void nothingTold() {
+        Check.eq("no papers: average", new Averagehall().average(), 0);
+        Check.eq("no papers: interests", new Averagehall().interests(), 0);
         Averagehall x = Check.opened(0);
-        Check.eq("interest", x.interest(1), 0);
-        Check.eq("interest", x.interest(100000), 1);
-        for (int value : new int[] {0, -1, 100001, Integer.MIN_VALUE, Integer.MAX_VALUE}) {
-            Check.failsAndKeeps("interest " + value, Check.IAE, x, () -> x.interest(value));
-        }
-    }
-
-    private static void perilRanges() {
-        Averagehall x = withInterests(10);
-        Check.eq("peril", x.peril('l', 0, 1, 0), 1);
-        Check.eq("peril", x.peril('g', 19, 100000, 4799), 2);
-        int[][] wrong = {{-1, 1, 0}, {20, 1, 0}, {0, 0, 0}, {0, -1, 0}, {0, 100001, 0}, {0, 1, -1}, {0, 1, 4800},
-            {Integer.MIN_VALUE, 1, 0}, {0, Integer.MAX_VALUE, 0}, {0, 1, Integer.MIN_VALUE}};
-        for (int[] row : wrong) {
-            Check.failsAndKeeps("peril " + java.util.Arrays.toString(row), Check.IAE, x,
-                    () -> x.peril('g', row[0], row[1], row[2]));
-        }
-        for (char c = 0; c < 300; c++) {
-            char kind = c;
-            if (c != 'l' && c != 'g') {
-                Check.fails("peril of " + (int) c, Check.IAE, () -> x.peril(kind, 0, 1, 0));
-            }
-        }
-    }
-
-    private static void expenseRanges() {
-        Averagehall x = withInterests(10);
-        Check.eq("expense", x.expense('p', 0, 1, 0), 1);
-        Check.eq("expense", x.expense('f', 19, 100000, 199), 2);
-        Check.eq("expense", x.expense('r', 0, 1, 0), 3);
-        Check.eq("expense", x.expense('w', 0, 1, 0), 4);
-        int[][] wrong = {{-1, 1, 0}, {20, 1, 0}, {0, 0, 0}, {0, -1, 0}, {0, 100001, 0}, {0, 1, -1}, {0, 1, 200},
-            {Integer.MIN_VALUE, 1, 0}, {0, Integer.MAX_VALUE, 0}, {0, 1, Integer.MIN_VALUE}};
-        for (int[] row : wrong) {
-            Check.failsAndKeeps("expense " + java.util.Arrays.toString(row), Check.IAE, x,
-                    () -> x.expense('p', row[0], row[1], row[2]));
-        }
-        for (char c = 0; c < 300; c++) {
-            char kind = c;
-            if ("pfrw".indexOf(c) < 0) {
-                Check.fails("expense of " + (int) c, Check.IAE, () -> x.expense(kind, 0, 1, 0));
-            }
-        }
-    }
-
-    private static void substituteRanges() {
-        Averagehall x = withInterests(10);
-        Check.eq("substitute", x.substitute(0, 1, 0, 0), 1);
-        Check.eq("substitute", x.substitute(19, 100000, 100000, 199), 2);
-        int[][] wrong = {{-1, 1, 0, 0}, {20, 1, 0, 0}, {0, 0, 0, 0}, {0, 100001, 0, 0}, {0, 1, -1, 0},
-            {0, 1, 100001, 0}, {0, 1, 0, -1}, {0, 1, 0, 200}, {Integer.MAX_VALUE, 1, 0, 0},
-            {0, Integer.MIN_VALUE, 0, 0}, {0, 1, Integer.MIN_VALUE, 0}, {0, 1, 0, Integer.MAX_VALUE}};
-        for (int[] row : wrong) {
-            Check.failsAndKeeps("substitute " + java.util.Arrays.toString(row), Check.IAE, x,
-                    () -> x.substitute(row[0], row[1], row[2], row[3]));
-        }
-    }
-
-    private static void awardAndDepositRanges() {
-        Averagehall x = withInterests(10);
-        Check.eq("award", x.award(1, 0), 1);
-        Check.eq("award", x.award(100000, 4799), 2);
-        Check.eq("deposit", x.deposit(0, 1), 3);
-        Check.eq("deposit", x.deposit(19, 100000), 4);
-        for (int amount : new int[] {0, -1, 100001, Integer.MIN_VALUE, Integer.MAX_VALUE}) {
-            Check.failsAndKeeps("award " + amount, Check.IAE, x, () -> x.award(amount, 0));
-            Check.failsAndKeeps("deposit " + amount, Check.IAE, x, () -> x.deposit(0, amount));
-        }
-        for (int hour : new int[] {-1, 4800, Integer.MIN_VALUE, Integer.MAX_VALUE}) {
-            Check.fails("award at " + hour, Check.IAE, () -> x.award(1, hour));
-        }
-        for (int interest : new int[] {-1, 20, Integer.MIN_VALUE, Integer.MAX_VALUE}) {
-            Check.fails("deposit of " + interest, Check.IAE, () -> x.deposit(interest, 1));
-        }
+        Check.eq("no facts: average", x.average(), 0);
+        x.expense('f', 0, 1, 0);
+        x.peril('g', 0, 1, 0);
+        Check.eq("no interests: average", x.average(), 0);
+        Check.eq("interests alone", withInterests(5, 6).average() + " " + shares(withInterests(5, 6)), "0 0 0");
+        Check.eq("interests alone", rests(withInterests(5, 6)), "5+0 6+0");
     }
 
     private static void askAll(String what, Averagehall x, int interest) {
@@ -157,7 +96,8 @@ public final class AverageTest {
         for (int i = 0; i < 200; i++) {
             y.interest(i + 1);
         }
-        Check.eq("the 200th", y.rest(199), 200);
+        Check.eq("the 200th", y.interests() + " " + y.rest(199) + " " + y.madeGood(199) + " " + y.share(199, false)
+                + " " + y.share(199, true) + " " + y.balance(199) + " " + y.due(199), "200 200 0 0 0 0 0");
         askAll("two hundred", y, 200);
     }
 
@@ -178,6 +118,15 @@ public final class AverageTest {
         Check.eq("interests as of 2", x.interests(), 0);
     }
 
+    private static void leastAndMostValue() {
+        Averagehall x = withInterests(1, MOST);
+        Check.eq("1 and 100000", rests(x), "1+0 100000+0");
+        x.peril('g', 0, MOST, 0);
+        x.peril('g', 1, MOST - 1, 0);
+        Check.eq("the least left", rests(x), "0+1 1+99999");
+        Check.eq("contribute in full", x.average() + " " + shares(x), "100000 1 99999");
+    }
+
     private static void perils() {
         Averagehall x = withInterests(100, 200);
         x.peril('l', 0, 30, 50);
@@ -190,10 +139,37 @@ public final class AverageTest {
         Check.eq("nothing is left", rests(x), "0+70 200+0");
         x.peril('l', 0, 60, 39);
         Check.eq("an earlier loss", rests(x), "0+20 200+0");
-        Averagehall y = withInterests(100, 1);
-        y.peril('l', 0, 100, 5);
-        y.peril('g', 0, 100, 5);
-        Check.eq("of the same hour as they were told", rests(y), "0+0 1+0");
+        x.peril('g', 1, 1, 4799);
+        Check.eq("another interest", rests(x), "0+20 199+1");
+    }
+
+    /** "Either is at most the rest, which becomes less by it". */
+    private static void atMostTheRest() {
+        int[][] amountRestMadeGood = {{1, 99, 1}, {98, 2, 98}, {99, 1, 99}, {100, 0, 100}, {101, 0, 100}, {MOST, 0, 100}};
+        for (int[] row : amountRestMadeGood) {
+            Averagehall x = withInterests(100, 7);
+            x.peril('g', 0, row[0], 3);
+            Check.eq("given up " + row[0], rests(x), row[1] + "+" + row[2] + " 7+0");
+            x.peril('g', 0, 100, 4);
+            Check.eq("the rest given up behind it", rests(x), "0+100 7+0");
+            Averagehall y = withInterests(100, 7);
+            y.peril('l', 0, row[0], 3);
+            Check.eq("lost " + row[0], rests(y), row[1] + "+0 7+0");
+            y.peril('g', 0, 100, 4);
+            Check.eq("the rest given up behind it", rests(y), "0+" + row[1] + " 7+0");
+        }
+    }
+
+    /** "By their hours, of the same hour as they were told". */
+    private static void byTheirHours() {
+        int[][] lostAndGiven = {{5, 5, 0}, {5, 6, 0}, {5, 4, 100}, {0, 1, 0}, {1, 0, 100}, {0, 0, 0}, {4798, 4799, 0},
+            {4799, 4798, 100}, {4799, 4799, 0}, {0, 4799, 0}, {4799, 0, 100}, {23, 24, 0}, {24, 23, 100}};
+        for (int[] row : lostAndGiven) {
+            Averagehall y = withInterests(100, 1);
+            y.peril('l', 0, 100, row[0]);
+            y.peril('g', 0, 100, row[1]);
+            Check.eq("lost at " + row[0] + ", then told as given up at " + row[1], rests(y), "0+" + row[2] + " 1+0");
+        }
         Averagehall z = withInterests(100, 1);
         z.peril('g', 0, 100, 5);
         z.peril('l', 0, 100, 5);
@@ -203,237 +179,330 @@ public final class AverageTest {
         Check.eq("as they were told, not by days", rests(z), "0+100 1+0");
         z.peril('l', 0, 90, 4);
         Check.eq("by hours", rests(z), "0+10 1+0");
-        Averagehall w = withInterests(100);
-        w.peril('g', 1, 7, 5);
-        Check.eq("no such interest", w.average(), 0);
-        w.interest(9);
-        Check.eq("now there is", w.average(), 7);
-        Check.eq("now there is", rests(w), "100+0 2+7");
-        w.asOf(4);
-        Check.eq("as of 4", w.average(), 0);
+        Averagehall many = withInterests(MOST, 1);
+        for (int hour = 150; hour > 0; hour--) {
+            many.peril(hour % 2 == 0 ? 'g' : 'l', 0, 2 * hour, hour);
+        }
+        many.peril('l', 0, MOST, 100);
+        Check.eq("of 151 those up to the hour 100", rests(many), "0+" + 2 * (2 + 100) * 25 + " 1+0");
     }
 
+    /** "One of an interest that there is not, as of a day, does not count". */
+    private static void perilsOfNobody() {
+        Averagehall x = withInterests(100);
+        x.peril('g', 1, 7, 5);
+        Check.eq("no such interest", x.average(), 0);
+        x.interest(9);
+        Check.eq("now there is", x.average() + " " + rests(x), "7 100+0 2+7");
+        x.asOf(4);
+        Check.eq("as of 4", x.average(), 0);
+        Averagehall y = Check.opened(3);
+        for (int i = 0; i < 19; i++) {
+            y.interest(10);
+        }
+        y.peril('g', 19, 4, 0);
+        y.peril('g', 18, 3, 0);
+        Check.eq("the last one of 19", y.average() + " " + y.rest(18), "3 7");
+        y.paper(5);
+        y.interest(10);
+        Check.eq("the last one of 20", y.average() + " " + y.rest(19), "7 6");
+        y.asOf(4);
+        Check.eq("as of 4 there are 19", y.average() + " " + y.interests(), "3 19");
+        y.asOf(999);
+        y.interest(10);
+        Check.eq("a 21st one", y.average() + " " + y.rest(20), "7 10");
+    }
+
+    /** "If all rests are 0, nobody contributes, and nothing is made good". */
     private static void allLost() {
         Averagehall x = withInterests(100, 50);
         x.peril('g', 0, 40, 1);
         x.expense('f', 1, 60, 0);
-        Check.eq("shares", shares(x, false), "67 33");
+        Check.eq("shares", shares(x), "67 33");
         x.peril('l', 0, 60, 2);
         Check.eq("one rest is left", rests(x), "0+40 50+0");
-        Check.eq("a rest of 0 contributes by what is made good", shares(x, false), "44 56");
+        Check.eq("a rest of 0 contributes by what is made good", shares(x), "44 56");
         x.peril('l', 1, 50, 2);
         Check.eq("nothing is made good", rests(x), "0+0 0+0");
         Check.eq("expenses stand", x.average(), 60);
-        Check.eq("nobody contributes", shares(x, false), "0 0");
+        Check.eq("nobody contributes", shares(x), "0 0");
         Check.eq("balances", balanceRow(x), "0 -60");
         Check.eq("consistent", x.isConsistent(), true);
+        Averagehall y = withInterests(10);
+        y.peril('g', 0, 10, 0);
+        Check.eq("all is given up", rests(y) + " " + y.average() + " " + shares(y) + " " + balanceRow(y), "0+0 0 0 0");
     }
 
-    private static void expensesLetIn() {
-        Averagehall x = withInterests(100);
-        x.expense('p', 0, 10, 0);
-        x.expense('f', 0, 1000, 0);
-        x.expense('w', 0, 100, 0);
-        x.expense('r', 0, 30000, 0);
-        x.expense('p', 1, 5, 0);
-        Check.eq("usual rules", x.average(), 31010 + 600);
-        x.clause('y', 1, false);
-        Check.eq("rules 1", x.average(), 31110 + 600);
-        x.clause('y', 3, false);
-        Check.eq("rules 3", x.average(), 1010);
-        x.clause('y', 2, false);
-        Check.eq("rules 2", x.average(), 31010 + 600);
-        x.interest(1);
-        Check.eq("there is a second payer", x.average(), 31015 + 600);
-        x.asOf(4);
-        Check.eq("as of 4", x.average(), 0);
+    private static void allButOneCoinLost() {
+        Averagehall x = withInterests(100, 50);
+        x.peril('g', 0, 100, 1);
+        x.peril('l', 1, 49, 2);
+        Check.eq("one coin is left", rests(x) + " " + x.average() + " " + shares(x), "0+100 1+0 100 99 1");
+        x.peril('l', 1, 1, 3);
+        Check.eq("no coin is left", rests(x) + " " + x.average() + " " + shares(x), "0+0 0+0 0 0 0");
     }
 
     private static long one(char kind, int amount, int day, int rules, int hundredths, int endHour) {
         Averagehall x = withInterests(100);
         x.clause('y', rules, false);
         x.clause('i', hundredths, false);
-        x.expense(kind, 0, amount, day);
+        if (kind == 's') {
+            x.substitute(0, amount, MOST, day);
+        } else {
+            x.expense(kind, 0, amount, day);
+        }
         if (endHour >= 0) {
             x.moment('e', endHour);
         }
         return x.average();
     }
 
-    private static void additions() {
-        for (int rules = 1; rules <= 2; rules++) {
-            Check.eq("2 hundredths for a port", one('p', 150, 0, rules, 0, -1), 153);
-            Check.eq("rounded down", one('p', 149, 0, rules, 0, -1), 151);
-            Check.eq("rounded down", one('p', 49, 0, rules, 0, -1), 49);
-            Check.eq("for a repair", one('r', 150, 0, rules, 0, -1), 153);
-            Check.eq("not for fuel", one('f', 150, 0, rules, 0, -1), 150);
-            Check.eq("interest for a port, without the hundredths", one('p', 36500, 0, rules, 1, 24 * 100), 37230 + 100);
+    private static void expensesLetIn() {
+        String kinds = "pfrws";
+        int[][] byRules = {{102, 100, 102, 100, 100}, {102, 100, 102, 0, 100}, {100, 100, 0, 0, 100}};
+        int[][] withInterest = {{112, 110, 112, 110, 110}, {112, 110, 112, 0, 110}, {110, 110, 0, 0, 110}};
+        for (int rules = 1; rules <= 3; rules++) {
+            for (int kind = 0; kind < kinds.length(); kind++) {
+                String what = "rules " + rules + ", kind " + kinds.charAt(kind);
+                Check.eq(what, one(kinds.charAt(kind), 100, 0, rules, 365, -1), byRules[rules - 1][kind]);
+                Check.eq(what + ", interest for 10 days", one(kinds.charAt(kind), 100, 0, rules, 365, 240),
+                        withInterest[rules - 1][kind]);
+            }
         }
-        Check.eq("not for wages", one('w', 150, 0, 1, 0, -1), 150);
-        Check.eq("wages by the rules 2, nor their interest", one('w', 36500, 0, 2, 1, 2400), 0);
-        Check.eq("a repair by the rules 3, nor its interest", one('r', 36500, 0, 3, 1, 2400), 0);
-        Check.eq("no hundredths by the rules 3", one('p', 150, 0, 3, 0, -1), 150);
-        Check.eq("interest by the rules 3", one('p', 36500, 0, 3, 1, 2400), 36600);
-        Check.eq("interest on wages", one('w', 36500, 0, 1, 1, 2400), 36600);
-        Check.eq("from its day", one('f', 36500, 60, 2, 1, 2400), 36540);
-        Check.eq("the day of the end", one('f', 36500, 60, 2, 1, 2400 + 23), 36540);
-        Check.eq("the day of the end", one('f', 36500, 60, 2, 1, 2400 - 1), 36539);
-        Check.eq("the same day", one('f', 36500, 100, 2, 1, 2423), 36500);
-        Check.eq("at least 0", one('f', 36500, 150, 2, 1, 2400), 36500);
-        Check.eq("the end was not told", one('f', 36500, 0, 2, 1, -1), 36500);
-        Check.eq("rounded down", one('f', 36499, 0, 2, 1, 24), 36499);
-        Check.eq("rounded down", one('f', 36500, 0, 2, 1, 24), 36501);
-        Check.eq("7 hundredths at first", interestAtFirst(), 36507);
-        Check.eq("the most", one('f', 100000, 0, 2, 9999, 4799), 100000 + 100000L * 9999 * 199 / 36500);
+        Averagehall x = withInterests(100);
+        x.expense('p', 0, 100, 0);
+        Check.eq("the rules 2 at first", x.average(), 102);
+        x.expense('w', 0, 100, 0);
+        Check.eq("the rules 2 at first", x.average(), 102);
+        x.clause('y', 1, true);
+        Check.eq("the rules 1", x.average(), 202);
+        x.strike(3);
+        Check.eq("the rules 2 again", x.average(), 102);
+    }
+
+    /** "One of a payer that there is not, as of a day, does not count". */
+    private static void expensesOfNobody() {
+        Averagehall x = withInterests(100);
+        x.expense('f', 1, 5, 0);
+        x.substitute(1, 9, 9, 0);
+        Check.eq("no such payer", x.average(), 0);
+        x.expense('f', 0, 30, 0);
+        Check.eq("one of them", x.average(), 30);
+        x.interest(1);
+        Check.eq("there is a second payer", x.average(), 44);
+        x.asOf(4);
+        Check.eq("as of 4", x.average(), 0);
+        Averagehall y = Check.opened(3);
+        for (int i = 0; i < 19; i++) {
+            y.interest(10);
+        }
+        y.expense('f', 19, 4, 0);
+        y.substitute(19, 6, 5, 0);
+        y.expense('f', 18, 3, 0);
+        y.substitute(18, 6, 2, 0);
+        Check.eq("the last one of 19", y.average() + " " + y.balance(18), "5 -5");
+        y.paper(5);
+        y.interest(10);
+        Check.eq("the last one of 20", y.average() + " " + y.balance(18) + " " + y.balance(19), "14 -5 -9");
+        y.asOf(4);
+        Check.eq("as of 4 there are 19", y.average(), 5);
+    }
+
+    /** "2 hundredths, rounded down, are added for 'p' and 'r'". */
+    private static void hundredths() {
+        int[][] amountAndAdded = {{1, 0}, {49, 0}, {50, 1}, {51, 1}, {99, 1}, {100, 2}, {149, 2}, {150, 3}, {MOST, 2000}};
+        for (int[] row : amountAndAdded) {
+            for (int rules = 1; rules <= 2; rules++) {
+                Check.eq("for a port of " + row[0], one('p', row[0], 0, rules, 0, -1), row[0] + row[1]);
+                Check.eq("for a repair of " + row[0], one('r', row[0], 0, rules, 0, -1), row[0] + row[1]);
+                Check.eq("not for fuel", one('f', row[0], 0, rules, 0, -1), row[0]);
+                Check.eq("not for one in place", one('s', row[0], 0, rules, 0, -1), row[0]);
+            }
+            Check.eq("not for wages", one('w', row[0], 0, 1, 0, -1), row[0]);
+            Check.eq("not by the rules 3", one('p', row[0], 0, 3, 0, -1), row[0]);
+        }
+        Averagehall x = withInterests(100);
+        x.expense('p', 0, 49, 0);
+        x.expense('r', 0, 49, 0);
+        x.expense('p', 0, 49, 0);
+        Check.eq("for each", x.average(), 147);
+    }
+
+    /** "For the days from its day to that of the end, at least 0, and 0 if the end was not told". */
+    private static void interestOnExpenses() {
+        int[][] dayEndDays = {{0, -1, 0}, {0, 0, 0}, {0, 23, 0}, {0, 24, 1}, {0, 47, 1}, {0, 48, 2}, {1, 0, 0}, {1, 24, 0},
+            {1, 48, 1}, {60, 2400, 40}, {60, 2399, 39}, {60, 2423, 40}, {99, 2400, 1}, {100, 2400, 0}, {101, 2400, 0},
+            {199, 0, 0}, {0, 4799, 199}, {0, 4775, 198}, {198, 4799, 1}, {199, 4799, 0}};
+        for (int[] row : dayEndDays) {
+            for (int rules = 1; rules <= 3; rules++) {
+                Check.eq("the day " + row[0] + ", the end at " + row[1], one('f', 36500, row[0], rules, 1, row[1]),
+                        36500 + row[2]);
+                Check.eq("in place, the day " + row[0] + ", the end at " + row[1], one('s', 36500, row[0], rules, 1, row[1]),
+                        36500 + row[2]);
+            }
+            Check.eq("without the 2 hundredths", one('p', 36500, row[0], 2, 1, row[1]), 36500 + 730 + row[2]);
+            Check.eq("wages by the rules 2", one('w', 36500, row[0], 2, 1, row[1]), 0);
+        }
+        Averagehall x = withInterests(100);
+        x.expense('f', 0, 36500, 0);
+        x.moment('f', 48);
+        x.moment('d', 72);
+        x.moment('g', 96);
+        Check.eq("other moments are no end", x.average(), 36500);
+        x.moment('e', 24);
+        Check.eq("7 hundredths at first", x.average(), 36507);
+        x.paper(4);
+        x.moment('e', 4799);
+        Check.eq("the end by an earlier paper", x.average(), 36507);
+        x.paper(5);
+        x.moment('e', 48);
+        Check.eq("the end by a paper of the same day", x.average(), 36514);
+    }
+
+    private static void interestRoundedDown() {
+        int[][] amountAndInterest = {{1, 0}, {36499, 0}, {36500, 1}, {36501, 1}, {72999, 1}, {73000, 2}, {MOST, 2}};
+        for (int[] row : amountAndInterest) {
+            Check.eq("for a day on " + row[0], one('f', row[0], 0, 2, 1, 24), row[0] + row[1]);
+        }
+        Check.eq("no hundredths", one('f', MOST, 0, 2, 0, 4799), MOST);
+        Check.eq("the most", one('f', MOST, 0, 2, 9999, 4799), MOST + 100000L * 9999 * 199 / 36500);
         Averagehall x = withInterests(100);
         x.moment('e', 24);
         for (int i = 0; i < 5; i++) {
             x.expense('f', 0, 5213, 0);
         }
-        Check.eq("each by itself", x.average(), 5 * 5213);
+        Check.eq("for each by itself", x.average(), 5 * 5213);
         x.expense('f', 0, 5215, 0);
-        Check.eq("each by itself", x.average(), 5 * 5213 + 5216);
-        x.paper(4);
-        x.moment('e', 4799);
-        Check.eq("the end by an earlier paper", x.average(), 5 * 5213 + 5216);
+        Check.eq("for each by itself", x.average(), 5 * 5213 + 5216);
     }
 
-    private static long interestAtFirst() {
-        Averagehall x = withInterests(100);
-        x.expense('f', 0, 36500, 0);
-        x.moment('e', 24);
-        return x.average();
-    }
-
+    /** "Let in up to what it saved, by all rules". */
     private static void substitutes() {
+        int[][] amountSavedLetIn = {{500, 0, 0}, {500, 1, 1}, {500, 499, 499}, {500, 500, 500}, {500, 501, 500},
+            {1, 0, 0}, {1, 1, 1}, {1, MOST, 1}, {MOST, 0, 0}, {MOST, MOST, MOST}, {MOST, MOST - 1, MOST - 1}};
         for (int rules = 1; rules <= 3; rules++) {
-            Averagehall x = withInterests(100, 100);
-            x.clause('y', rules, false);
-            x.substitute(1, 500, 300, 0);
-            Check.eq("up to what it saved", x.average(), 300);
-            x.substitute(1, 500, 700, 0);
-            Check.eq("up to itself", x.average(), 800);
-            x.substitute(1, 500, 0, 0);
-            Check.eq("it saved nothing", x.average(), 800);
-            x.substitute(2, 500, 100, 0);
-            Check.eq("no such payer", x.average(), 800);
-            Check.eq("who paid it", balanceRow(x), "400 -400");
-            x.clause('i', 365, false);
-            x.moment('e', 24 * 10);
-            Check.eq("interest on what is let in", x.average(), 800 + 30 + 50);
+            for (int[] row : amountSavedLetIn) {
+                Averagehall x = withInterests(100, 100);
+                x.clause('y', rules, false);
+                x.substitute(1, row[0], row[1], 0);
+                Check.eq("made for " + row[0] + ", saved " + row[1], x.average(), row[2]);
+                Check.eq("who paid it", x.balance(1), row[2] / 2 - row[2]);
+            }
+            Averagehall y = withInterests(100, 100);
+            y.clause('y', rules, false);
+            y.substitute(1, 500, 300, 0);
+            y.clause('i', 365, false);
+            y.moment('e', 24 * 10);
+            Check.eq("interest on what is let in", y.average(), 330);
+            y.substitute(0, 500, 700, 0);
+            Check.eq("interest on what is let in", y.average(), 330 + 550);
         }
     }
 
     private static void sharing() {
         Averagehall x = withInterests(1, 1, 1);
+        Check.eq("no coin", shares(x), "0 0 0");
         x.expense('f', 2, 1, 0);
-        Check.eq("one coin to the lowest number", shares(x, false), "1 0 0");
+        Check.eq("one coin to the lowest number", shares(x), "1 0 0");
         x.expense('f', 2, 1, 0);
-        Check.eq("two coins", shares(x, false), "1 1 0");
+        Check.eq("two coins", shares(x), "1 1 0");
         x.expense('f', 2, 1, 0);
-        Check.eq("three coins", shares(x, false), "1 1 1");
-        Averagehall y = withInterests(100, 200, 300);
-        y.expense('f', 0, 100, 0);
-        Check.eq("the greatest remainder", shares(y, false), "17 33 50");
-        y.expense('f', 0, 1, 0);
-        Check.eq("of the same to the lower number", shares(y, false), "17 34 50");
-        Averagehall z = withInterests(300, 200, 100);
-        z.expense('f', 0, 100, 0);
-        Check.eq("the greatest remainder, the last one", shares(z, false), "50 33 17");
-        z.peril('l', 1, 200, 0);
-        Check.eq("by the rests", shares(z, false), "75 0 25");
-        z.peril('g', 0, 150, 0);
-        Check.eq("by the rests and what is made good", shares(z, false), "188 0 62");
+        Check.eq("three coins", shares(x), "1 1 1");
+        Averagehall y = withInterests(1);
+        y.expense('f', 0, 77, 0);
+        Check.eq("one interest bears all", shares(y) + " " + balanceRow(y), "77 0");
         Averagehall w = withInterests(99999, 99998, 3);
         w.expense('f', 0, 99991, 0);
-        Check.eq("great numbers", shares(w, false), "49995 49995 1");
-        Check.eq("no average", shares(withInterests(5, 6), false), "0 0");
-        Averagehall none = Check.opened(0);
-        none.expense('f', 0, 1, 0);
-        Check.eq("no interests", none.average(), 0);
+        Check.eq("products of more than 32 bits", shares(w), "49995 49995 1");
     }
 
-    private static void awards() {
-        Averagehall x = withInterests(100, 50);
-        x.award(31, 10);
-        Check.eq("rules 2: an expense", x.average(), 31);
-        Check.eq("rules 2: shares", shares(x, false), "21 10");
-        Check.eq("rules 2: of salvage", shares(x, true), "0 0");
-        Check.eq("rules 2: of the ship", balanceRow(x), "-10 10");
+    /** "One coin each goes to those whose remainders are greatest, of the same to the lower numbers". */
+    private static void greatestRemainders() {
+        Averagehall y = withInterests(100, 200, 300);
+        y.expense('f', 0, 100, 0);
+        Check.eq("the greatest remainder", shares(y), "17 33 50");
+        y.expense('f', 0, 1, 0);
+        Check.eq("of the same to the lower number", shares(y), "17 34 50");
+        Averagehall z = withInterests(300, 200, 100);
+        z.expense('f', 0, 100, 0);
+        Check.eq("the greatest remainder, the last one", shares(z), "50 33 17");
+        z.peril('l', 1, 200, 0);
+        Check.eq("by the rests", shares(z), "75 0 25");
+        z.peril('g', 0, 150, 0);
+        Check.eq("by the rests and what is made good", shares(z), "188 0 62");
+        Averagehall v = withInterests(10, 30, 30, 30);
+        v.expense('f', 0, 2, 0);
+        Check.eq("two of three alike", shares(v), "0 1 1 0");
+        Averagehall u = withInterests(50, 10, 40, 10);
+        u.expense('f', 0, 3, 0);
+        Check.eq("remainders, not shares", shares(u), "2 0 1 0");
+    }
+
+    /** Shares of a small whole, reckoned by giving each coin in its turn. */
+    private static String due(long whole, int... weights) {
+        long all = 0;
+        for (int weight : weights) {
+            all += weight;
+        }
+        long[] shares = new long[weights.length];
+        long[] remainders = new long[weights.length];
+        long left = whole;
+        for (int i = 0; i < weights.length; i++) {
+            shares[i] = whole * weights[i] / all;
+            remainders[i] = whole * weights[i] % all;
+            left -= shares[i];
+        }
+        StringBuilder text = new StringBuilder();
+        for (int i = 0; i < weights.length; i++) {
+            int ahead = 0;
+            for (int j = 0; j < weights.length; j++) {
+                ahead += remainders[j] > remainders[i] || remainders[j] == remainders[i] && j < i ? 1 : 0;
+            }
+            text.append(shares[i] + (ahead < left ? 1 : 0)).append(' ');
+        }
+        return text.toString().trim();
+    }
+
+    private static void coinsForAllButOne() {
+        int[] alike = new int[20];
+        java.util.Arrays.fill(alike, 7);
+        for (int coins = 1; coins <= 41; coins++) {
+            Averagehall x = withInterests(alike);
+            x.expense('f', 0, coins, 0);
+            Check.eq("20 alike share " + coins, shares(x), due(coins, alike));
+        }
+    }
+
+    private static void sharesTogether() {
+        int[] values = {1, 99999, 77, 77, 100000, 3, 501};
+        for (int amount : new int[] {1, 2, 3, 6, 7, 100, 999, 54321, 99999, 100000}) {
+            Averagehall x = withInterests(values);
+            x.expense('f', 3, amount, 0);
+            Check.eq("shares of " + amount, shares(x), due(amount, values));
+        }
+    }
+
+    private static void theMost() {
+        Averagehall x = withInterests(MOST, 1);
+        x.clause('i', 9999, false);
+        x.clause('y', 1, false);
         x.moment('e', 4799);
-        Check.eq("nothing is added", x.average(), 31);
-        x.clause('y', 1, false);
-        Check.eq("rules 1", x.average(), 31);
-        Check.eq("rules 1: of the ship", balanceRow(x), "-10 10");
-        x.clause('y', 3, false);
-        Check.eq("rules 3", x.average(), 0);
-        Check.eq("rules 3: of salvage", shares(x, true), "21 10");
-        Check.eq("rules 3: of the average", shares(x, false), "0 0");
-        Check.eq("rules 3: balances", balanceRow(x), "21 10");
-        x.peril('l', 0, 99, 10);
-        Check.eq("of its own hour", shares(x, true), "21 10");
-        x.peril('l', 0, 50, 9);
-        Check.eq("ahead of its hour", shares(x, true), "16 15");
-        x.peril('g', 1, 50, 9);
-        Check.eq("what was given up is no rest", shares(x, true), "31 0");
-        x.peril('l', 0, 100, 9);
-        Check.eq("all are 0", shares(x, true), "0 0");
-        Check.eq("all are 0", balanceRow(x), "0 0");
+        int count = 0;
+        while (x.facts() < 200) {
+            x.expense('p', 1, MOST, 0);
+            count++;
+        }
+        long each = 100000 + 2000 + 100000L * 9999 * 199 / 36500;
+        long whole = count * each;
+        Check.eq("the most", x.average(), whole);
+        long low = whole / 100001;
+        long small = (whole % 100001) * 2 > 100001 ? low + 1 : low;
+        Check.eq("share", x.share(0, false), whole - small);
+        Check.eq("share", x.share(1, false), small);
+        Check.eq("balance", x.balance(1), small - whole);
+        Check.eq("due", x.due(0), whole - small);
+        Check.eq("mean", x.meanBalance(), (double) (2 * (whole - small)) / 2);
         Check.eq("consistent", x.isConsistent(), true);
-        x.award(8, 0);
-        Check.eq("told again", shares(x, true), "5 3");
-        x.paper(2);
-        x.award(9, 0);
-        Check.eq("by a fact with a lower number", shares(x, true), "6 3");
-        x.asOf(4);
-        Check.eq("no interests", x.interests() + " " + x.average(), "0 0");
-        x.clause('y', 2, true);
-        Check.eq("no ship", x.average(), 0);
-        x.interest(7);
-        Check.eq("a ship", x.average(), 9);
-    }
-
-    private static void balances() {
-        Averagehall x = withInterests(1000, 2000);
-        x.clause('y', 3, false);
-        x.peril('g', 1, 500, 100);
-        x.expense('p', 0, 101, 3);
-        x.expense('w', 0, 999, 3);
-        x.award(60, 50);
-        Check.eq("average", x.average(), 601);
-        Check.eq("shares", shares(x, false), "200 401");
-        Check.eq("salvage", shares(x, true), "20 40");
-        Check.eq("balances", balanceRow(x), (200 + 20 - 101) + " " + (401 + 40 - 500));
-        x.clause('y', 1, false);
-        Check.eq("rules 1", x.average(), 500 + 103 + 999 + 60);
-        Check.eq("rules 1", balanceRow(x), (554 - 1162) + " " + (1108 - 500));
-    }
-
-    private static void deposits() {
-        Averagehall x = withInterests(1000, 1000);
-        x.expense('f', 0, 500, 0);
-        Check.eq("due", x.due(0) + " " + x.due(1), "0 250");
-        x.deposit(1, 200);
-        Check.eq("less a deposit", x.due(0) + " " + x.due(1), "0 50");
-        x.deposit(1, 60);
-        Check.eq("less two", x.due(0) + " " + x.due(1), "0 -10");
-        x.deposit(0, 5);
-        x.deposit(7, 9);
-        Check.eq("all of it back", x.due(0) + " " + x.due(1), "-5 -10");
-        Check.eq("balances stand", balanceRow(x), "-250 250");
-        x.paper(6);
-        x.deposit(1, 100);
-        Check.eq("due", x.due(1), -110);
-        x.asOf(5);
-        Check.eq("as of 5", x.due(1), -10);
-    }
-
-    private static void oneCoin() {
-        Averagehall x = withInterests(1);
-        x.clause('y', 3, false);
-        x.expense('f', 0, 77, 0);
-        x.award(55, 0);
-        Check.eq("a value of 1", shares(x, false) + " " + shares(x, true) + " " + balanceRow(x), "77 55 55");
     }
 
     private static void theFirstFact() {
@@ -445,14 +514,6 @@ public final class AverageTest {
         y.expense('f', 0, 3, 0);
         y.interest(10);
         Check.eq("an expense as the first fact", y.average(), 3);
-        Averagehall z = Check.opened(0);
-        z.award(4, 0);
-        z.interest(10);
-        Check.eq("an award as the first fact", z.average(), 4);
-        Averagehall w = Check.opened(0);
-        w.deposit(0, 5);
-        w.interest(10);
-        Check.eq("a deposit as the first fact", w.due(0), -5);
     }
 
     private static void backToAnEarlierDay() {
@@ -492,27 +553,5 @@ public final class AverageTest {
         Check.eq("goodShare", lively().goodShare(), 90f / 135f);
         Check.eq("meanBalance", lively().meanBalance(), (65 + 35) / 2d);
         Check.eq("isConsistent", lively().isConsistent(), true);
-    }
-
-    private static void theMost() {
-        Averagehall x = withInterests(100000, 1);
-        x.clause('i', 9999, false);
-        x.clause('y', 1, false);
-        x.moment('e', 4799);
-        int count = 0;
-        while (x.facts() < 200) {
-            x.expense('p', 1, 100000, 0);
-            count++;
-        }
-        long each = 100000 + 2000 + 100000L * 9999 * 199 / 36500;
-        long whole = count * each;
-        Check.eq("the most", x.average(), whole);
-        long low = whole / 100001;
-        long small = (whole % 100001) * 2 > 100001 ? low + 1 : low;
-        Check.eq("share", x.share(0, false), whole - small);
-        Check.eq("balance", x.balance(1), small - whole);
-        Check.eq("due", x.due(0), whole - small);
-        Check.eq("mean", x.meanBalance(), (double) (2 * (whole - small)) / 2);
-        Check.eq("consistent", x.isConsistent(), true);
     }
 }

@@ -6,13 +6,23 @@ final class Check {
         Object answer();
     }
 
+    /** Makes an object with a past, each time the same one. */
+    interface Past {
+        Averagehall made();
+    }
+
+    interface CallOn {
+        Object answer(Averagehall x);
+    }
+
     static final Class<? extends RuntimeException> IAE = IllegalArgumentException.class;
     static final Class<? extends RuntimeException> ISE = IllegalStateException.class;
     static final Class<? extends RuntimeException> IOOBE = IndexOutOfBoundsException.class;
     static final Class<? extends RuntimeException> NSEE = NoSuchElementException.class;
     static final Class<? extends RuntimeException> AE = ArithmeticException.class;
 
-    private static final String SUBJECTS = "adensrkbhvwiyt";
+    static final String SUBJECTS = "adensrkbhvwiyt";
+
     private static int made;
     private static int wrong;
 
@@ -40,14 +50,14 @@ final class Check {
         }
     }
 
-    /** A call that throws, and behind which all answers are as they were. */
-    static void failsAndKeeps(String what, Class<? extends RuntimeException> due, Averagehall x, Call call) {
-        String before = snapshot(x);
-        fails(what, due, call);
-        eq(what + " changes nothing", snapshot(x), before);
+    /** A call that throws, on one of two objects of the same past; behind it both answer alike to all that comes. */
+    static void failsAndKeeps(String what, Class<? extends RuntimeException> due, Past past, CallOn call) {
+        Averagehall called = past.made();
+        fails(what, due, () -> call.answer(called));
+        eq(what + " changes nothing", future(called), future(past.made()));
     }
 
-    /** What an object answers to all that can be asked of it; some 60 calls. */
+    /** What an object answers to all that can be asked of it; at most 120 calls. */
     static String snapshot(Averagehall x) {
         StringBuilder text = new StringBuilder();
         text.append(x.facts()).append(' ').append(x.interests()).append(' ').append(x.claims());
@@ -67,6 +77,18 @@ final class Check {
         }
         text.append(' ').append(outcome(x::goodShare)).append(' ').append(outcome(x::meanBalance));
         return text.append(' ').append(x.isConsistent()).toString();
+    }
+
+    /** The snapshot, and what shows only later: the next numbers, the day looked from, the day of the open paper. */
+    private static String future(Averagehall x) {
+        StringBuilder text = new StringBuilder(snapshot(x));
+        text.append(" next fact ").append(outcome(() -> x.interest(77)));
+        text.append(" looked from ").append(x.asOf(0)).append(", facts by days");
+        for (int day = 3; day <= 9; day++) {
+            x.asOf(day);
+            text.append(' ').append(x.facts());
+        }
+        return text.append(" next paper ").append(outcome(() -> x.paper(1))).toString();
     }
 
     static Averagehall opened(int day) {

@@ -1,30 +1,26 @@
 /** Promises 5 to 7: clause, strike, binding. */
 public final class ClausesTest {
-    private static final String SUBJECTS = "adensrkbhvwiyt";
     private static final int[] USUAL = {72, 2400, 1200, 6, 0, 0, 0, 0, 4800, 12, 4, 7, 2, 50};
 
     public static void main(String[] args) {
         usualValues();
-        ranges();
+        leastAndMost();
         ridersAheadOfPrint();
+        eachSubjectByItself();
         struckOut();
+        allStruckOut();
         asOfDays();
-        wrongStrikes();
+        whatCannotBeStruckOut();
         Check.end("ClausesTest");
     }
 
+    /** "Or, without any, the value here". */
     private static void usualValues() {
-        Averagehall x = new Averagehall();
-        for (int i = 0; i < SUBJECTS.length(); i++) {
-            Check.eq("usual " + SUBJECTS.charAt(i), x.binding(SUBJECTS.charAt(i)), USUAL[i]);
+        for (int i = 0; i < Check.SUBJECTS.length(); i++) {
+            char subject = Check.SUBJECTS.charAt(i);
+            Check.eq("usual " + subject, new Averagehall().binding(subject), USUAL[i]);
+            Check.eq("usual behind a paper, " + subject, Check.opened(0).binding(subject), USUAL[i]);
         }
-        for (char c = 0; c < 300; c++) {
-            char subject = c;
-            if (SUBJECTS.indexOf(c) < 0) {
-                Check.fails("binding " + (int) c, Check.IAE, () -> x.binding(subject));
-            }
-        }
-        Check.fails("binding 65535", Check.IAE, () -> x.binding((char) 65535));
     }
 
     private static int least(char subject) {
@@ -35,27 +31,21 @@ public final class ClausesTest {
         return "srkb".indexOf(subject) >= 0 ? 1 : subject == 'y' ? 3 : 9999;
     }
 
-    private static void ranges() {
-        for (int i = 0; i < SUBJECTS.length(); i++) {
-            char c = SUBJECTS.charAt(i);
-            Averagehall x = Check.opened(0);
-            Check.eq("least " + c, x.clause(c, least(c), false), 0);
-            Check.eq("binds " + c, x.binding(c), least(c));
-            Check.eq("most " + c, x.clause(c, most(c), false), 1);
-            Check.eq("binds " + c, x.binding(c), most(c));
-            Check.failsAndKeeps("under " + c, Check.IAE, x, () -> x.clause(c, least(c) - 1, true));
-            Check.failsAndKeeps("over " + c, Check.IAE, x, () -> x.clause(c, most(c) + 1, true));
-            Check.fails("min " + c, Check.IAE, () -> x.clause(c, Integer.MIN_VALUE, true));
-            Check.fails("max " + c, Check.IAE, () -> x.clause(c, Integer.MAX_VALUE, true));
-        }
-        Averagehall x = Check.opened(0);
-        for (char c = 0; c < 300; c++) {
-            char subject = c;
-            if (SUBJECTS.indexOf(c) < 0) {
-                Check.fails("clause " + (int) c, Check.IAE, () -> x.clause(subject, 1, false));
+    private static void leastAndMost() {
+        for (char subject : Check.SUBJECTS.toCharArray()) {
+            for (boolean isRider : new boolean[] {false, true}) {
+                Averagehall x = Check.opened(0);
+                Check.eq("least " + subject, x.clause(subject, least(subject), isRider), 0);
+                Check.eq("binds " + subject, x.binding(subject), least(subject));
+                Check.eq("most " + subject, x.clause(subject, most(subject), isRider), 1);
+                Check.eq("binds " + subject, x.binding(subject), most(subject));
+                Check.fails("under " + subject, Check.IAE, () -> x.clause(subject, least(subject) - 1, isRider));
+                Check.fails("over " + subject, Check.IAE, () -> x.clause(subject, most(subject) + 1, isRider));
+                Check.eq("binds " + subject, x.binding(subject), most(subject));
             }
         }
-        Check.failsAndKeeps("no such subject", Check.IAE, x, () -> x.clause('A', 1, true));
+        Averagehall x = Check.opened(0);
+        Check.eq("the rules between", x.clause('y', 2, true), 0);
     }
 
     private static void ridersAheadOfPrint() {
@@ -76,6 +66,24 @@ public final class ClausesTest {
         Check.eq("as of 4", x.binding('a'), 22);
         x.asOf(1);
         Check.eq("as of 1", x.binding('a'), 72);
+        Averagehall y = Check.opened(5);
+        y.clause('a', 10, false);
+        y.paper(2);
+        y.clause('a', 11, false);
+        Check.eq("print by numbers of facts, not by days", y.binding('a'), 11);
+        Averagehall z = Check.opened(5);
+        z.clause('a', 10, true);
+        Check.eq("a rider without print", z.binding('a'), 10);
+    }
+
+    private static void eachSubjectByItself() {
+        Averagehall x = Check.opened(0);
+        for (char subject : Check.SUBJECTS.toCharArray()) {
+            x.clause(subject, 1, subject < 'k');
+        }
+        for (char subject : Check.SUBJECTS.toCharArray()) {
+            Check.eq("binds " + subject, x.binding(subject), 1);
+        }
     }
 
     private static void struckOut() {
@@ -96,6 +104,19 @@ public final class ClausesTest {
         Check.eq("the usual value", x.binding('h'), 4800);
         x.clause('h', 5, false);
         Check.eq("a new one", x.binding('h'), 5);
+    }
+
+    private static void allStruckOut() {
+        for (int i = 0; i < Check.SUBJECTS.length(); i++) {
+            char subject = Check.SUBJECTS.charAt(i);
+            Averagehall x = Check.opened(0);
+            x.clause(subject, 1, true);
+            x.clause(subject, 1, false);
+            x.strike(1);
+            Check.eq("the rider of " + subject, x.binding(subject), 1);
+            x.strike(0);
+            Check.eq("without any, " + subject, x.binding(subject), USUAL[i]);
+        }
     }
 
     private static void asOfDays() {
@@ -122,22 +143,47 @@ public final class ClausesTest {
         x.paper(45);
         x.strike(late);
         Check.eq("struck by an earlier paper", x.binding('t'), 50);
+        x.paper(900);
+        x.strike(x.clause('t', 6, true));
+        Check.eq("by the latest paper", x.binding('t'), 50);
+        Averagehall y = Check.opened(0);
+        y.clause('t', 9, false);
+        y.strike(0);
+        y.asOf(0);
+        Check.eq("by the earliest paper", y.binding('t'), 50);
+        Averagehall z = Check.opened(0);
+        z.clause('t', 9, false);
+        z.paper(900);
+        z.strike(0);
+        Check.eq("by the latest paper", z.binding('t'), 50);
+        z.asOf(899);
+        Check.eq("a day earlier", z.binding('t'), 9);
     }
 
-    private static void wrongStrikes() {
+    private static void whatCannotBeStruckOut() {
         Averagehall x = Check.opened(0);
+        Check.fails("nothing was told", Check.IOOBE, () -> x.strike(0));
         x.clause('a', 1, true);
         x.strike(0);
         x.notice(0, true);
-        x.moment('f', 1);
+        x.stop('r', 0, 1);
         x.holiday(3);
-        for (int fact = 1; fact <= 6; fact++) {
+        x.moment('f', 1);
+        x.run(0, 0, 0);
+        x.interest(1);
+        x.peril('l', 0, 1, 0);
+        x.expense('p', 0, 1, 0);
+        x.substitute(0, 1, 0, 0);
+        x.award(1, 0);
+        x.deposit(0, 1);
+        x.tons(1);
+        x.claim(0, 1, 0);
+        Check.eq("facts", x.facts(), 15);
+        for (int fact = 1; fact <= 16; fact++) {
             int number = fact;
-            Check.failsAndKeeps("strike " + fact, Check.IOOBE, x, () -> x.strike(number));
+            Check.fails("strike " + fact, Check.IOOBE, () -> x.strike(number));
         }
-        Check.failsAndKeeps("strike -1", Check.IOOBE, x, () -> x.strike(-1));
-        Check.fails("strike 200", Check.IOOBE, () -> x.strike(200));
-        Check.fails("strike min", Check.IOOBE, () -> x.strike(Integer.MIN_VALUE));
-        Check.fails("strike max", Check.IOOBE, () -> x.strike(Integer.MAX_VALUE));
+        Check.eq("nothing was told", x.facts(), 15);
+        Check.eq("but the clause, once more", x.strike(0), 15);
     }
 }
