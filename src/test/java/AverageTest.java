@@ -196,6 +196,12 @@ public final class AverageTest {
         Check.eq("now there is", x.average() + " " + rests(x), "7 100+0 2+7");
         x.asOf(4);
         Check.eq("as of 4", x.average(), 0);
+        for (int interest = 2; interest <= 19; interest++) {
+            Averagehall far = withInterests(100, 50);
+            far.peril('g', interest, 40, 0);
+            far.peril('l', interest, 40, 0);
+            Check.eq("far beyond the interests, " + interest, far.average() + " " + rests(far), "0 100+0 50+0");
+        }
         Averagehall y = Check.opened(3);
         for (int i = 0; i < 19; i++) {
             y.interest(10);
@@ -292,6 +298,13 @@ public final class AverageTest {
         Check.eq("there is a second payer", x.average(), 44);
         x.asOf(4);
         Check.eq("as of 4", x.average(), 0);
+        for (int payer = 2; payer <= 19; payer++) {
+            Averagehall far = withInterests(100, 50);
+            far.expense('f', payer, 40, 0);
+            far.substitute(payer, 40, 40, 0);
+            Check.eq("far beyond the payers, " + payer, far.average() + " " + balanceRow(far), "0 0 0");
+            Check.eq("consistent", far.isConsistent(), true);
+        }
         Averagehall y = Check.opened(3);
         for (int i = 0; i < 19; i++) {
             y.interest(10);
