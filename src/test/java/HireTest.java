@@ -227,6 +227,11 @@ public final class HireTest {
         x.run(2, 0, 0);
         Check.eq("at least 0", x.hire(), 0);
         Check.eq("but all are lost", x.hoursLost(), 72);
+        for (int day : new int[] {0, 1, 2, 3, 4, 5, 199}) {
+            Averagehall y = hired(50, 110);
+            y.run(day, 0, 0);
+            Check.eq("in the hire or not, the day " + day, y.hoursLost() + " " + y.hire(), "24 36");
+        }
     }
 
     private static void roundedDown() {
