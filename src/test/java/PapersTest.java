@@ -14,6 +14,7 @@ public final class PapersTest {
         eachKindOnItsDay();
         restated();
         fullBook();
+        theLastCall();
         Check.end("PapersTest");
     }
 
@@ -291,5 +292,18 @@ public final class PapersTest {
         x.asOf(1);
         Check.eq("200 facts", x.facts(), 200);
         Check.eq("20 interests", x.interests() + " " + x.rest(19), "20 " + (290 - 7));
+    }
+
+    /** "Used for at most 512 calls": the 512th one still has its answer. */
+    private static void theLastCall() {
+        Averagehall x = Check.opened(900);
+        for (int call = 2; call <= 200; call++) {
+            Check.eq("the call " + call, x.interest(call), call - 2);
+        }
+        for (int call = 201; call <= 510; call++) {
+            Check.eq("the call " + call, x.balance(call % 199), 0);
+        }
+        Check.eq("the call 511", x.facts(), 199);
+        Check.eq("the call 512", x.rest(198), 200);
     }
 }
